@@ -627,6 +627,12 @@ public final class FormulaVisitors {
             return has(i) ? numbers[i] : 0;
         }
 
+        /** How many parts node i has. */
+        int parts(int i) {
+            int kind = kind(i);
+            return isKind(kind) ? PARTS[kind] : 0;
+        }
+
         int nodes(int i) {
             return i >= 0 && i < size ? sizes[i] : 0;
         }
@@ -1019,8 +1025,7 @@ public final class FormulaVisitors {
         }
 
         private static int partOf(int[] trees, Formula it, int i, int which) {
-            int kind = it.kind(i);
-            if (!isKind(kind) || which >= PARTS[kind]) {
+            if (which >= it.parts(i)) {
                 return NONE;
             }
             int place = it.part(i, which);
@@ -1251,8 +1256,7 @@ public final class FormulaVisitors {
 
         private void askParts(Formula it, int i) {
             int kind = it.kind(i);
-            int parts = isKind(kind) ? PARTS[kind] : 0;
-            for (int which = 0; which < parts; which++) {
+            for (int which = 0; which < it.parts(i); which++) {
                 int place = it.part(i, which);
                 boolean passedBy = kind == PICK && which > 0 && which != (worthAt(i + 1) != 0 ? 1 : 2);
                 if (place < NODES && !passedBy) {
@@ -1437,7 +1441,7 @@ public final class FormulaVisitors {
             for (int i = it.size() - 1; i >= 0; i--) {
                 lengths[i] = lengthOf(it, i);
             }
-            size = lengths[0];
+            size = Math.min(LINES, lengths[0]);
             starts[0] = 0;
             for (int i = 0; i < it.size(); i++) {
                 writeNode(it, i, starts[i], lengths[i]);
@@ -1447,8 +1451,7 @@ public final class FormulaVisitors {
         private int lengthOf(Formula it, int i) {
             int kind = it.kind(i);
             int length = kind == PICK || kind == SQUARE ? 2 : 1;
-            int parts = isKind(kind) ? PARTS[kind] : 0;
-            for (int which = 0; which < parts; which++) {
+            for (int which = 0; which < it.parts(i); which++) {
                 length += lengthAt(it.part(i, which));
             }
             return length;
@@ -1637,8 +1640,7 @@ public final class FormulaVisitors {
                 return 2 * first;
             }
             int all = 0;
-            int parts = isKind(kind) ? PARTS[kind] : 0;
-            for (int which = 0; which < parts; which++) {
+            for (int which = 0; which < it.parts(i); which++) {
                 all = join(measure, all, toldOf(it.part(i, which)));
             }
             return all;
@@ -1657,19 +1659,15 @@ public final class FormulaVisitors {
         }
 
         private boolean hasName(Formula it, int i, int name) {
-            int kind = it.kind(i);
-            boolean has = kind == NAME && it.number(i) == name;
-            int parts = isKind(kind) ? PARTS[kind] : 0;
-            for (int which = 0; which < parts; which++) {
+            boolean has = it.kind(i) == NAME && it.number(i) == name;
+            for (int which = 0; which < it.parts(i); which++) {
                 has = has || namedAt(it.part(i, which));
             }
             return has;
         }
 
         private boolean hasNoneOf(Formula it, int i) {
-            int kind = it.kind(i);
-            int parts = isKind(kind) ? PARTS[kind] : 0;
-            for (int which = 0; which < parts; which++) {
+            for (int which = 0; which < it.parts(i); which++) {
                 if (toldOf(it.part(i, which)) == NONE) {
                     return true;
                 }
