@@ -1,81 +1,15 @@
 /** What each promise says, by hand: ordinary inputs, the edges that the document names, wrong inputs. */
-public final class PromisesTest {
-    private static final int MAX = Integer.MAX_VALUE, MIN = Integer.MIN_VALUE;
-    private static final long BAD = -1000002, STATE = -1000003, DEAR = -1000006;
-    private static int wrong = 0;
-
-    private static void due(String what, long got, long want) {
-        if (got != want) {
-            wrong++;
-            System.out.println(what + ": answered " + got + ", due is " + want);
-        }
-    }
-
-    private static void dueText(String what, String got, String want) {
-        if (!got.equals(want)) {
-            wrong++;
-            System.out.println(what + ": answered " + got + ", due is " + want);
-        }
-    }
-
-    /** The text comes to THE TAPE. */
-    private static void feedAll(FormulaVisitors x, String text) {
-        for (int i = 0; i < text.length(); i += 5) {
-            int[] v = new int[5];
-            int n = Math.min(5, text.length() - i);
-            for (int j = 0; j < n; j++) v[j] = text.charAt(i + j);
-            due("feed of " + text, x.feed(n, v[0], v[1], v[2], v[3], v[4]), i + n);
-        }
-    }
-
-    private static int write(FormulaVisitors x, int formula, String text) {
-        feedAll(x, text);
-        return x.text(formula);
-    }
-
-    private static FormulaVisitors of(String... texts) {
+public final class PromisesTest extends Checks {
+    static void promise01_newObject() {
         FormulaVisitors x = new FormulaVisitors();
-        for (int i = 0; i < texts.length; i++) {
-            if (write(x, i, texts[i]) < 0) due("text " + texts[i], -1, 0);
-        }
-        return x;
-    }
-
-    private static String printed(FormulaVisitors x, int formula) {
-        StringBuilder s = new StringBuilder();
-        int size = x.print(formula, -1);
-        for (int i = 0; i < size; i++) s.append((char) x.print(formula, i));
-        return s.toString();
-    }
-
-    private static void dueFault(String text, int place) {
-        FormulaVisitors x = of("a+7");
-        due("text " + text, write(x, 0, text), -100 - place);
-        due("tape after " + text, x.count(1), 0);
-        dueText("formula after the fault of " + text, printed(x, 0), "a+7");
-    }
-
-    private static void duePrinted(String text, String want) {
-        dueText("print of " + text, printed(of(text), 0), want);
-    }
-
-    private static void dueTurned(String text, int what, String want) {
-        FormulaVisitors x = of(text);
-        int nodes = x.turn(0, what, -5);
-        dueText("turn " + what + " of " + text, printed(x, 0), want);
-        due("nodes of turn " + what + " of " + text, nodes, x.measure(0, 0));
-    }
-
-    private static void newObject() {
-        FormulaVisitors x = new FormulaVisitors();
-        for (int i = 0; i < 12; i++) due("worth of a new formula", x.worth(i), STATE);
+        for (int i = 0; i < 12; i++) due("worth of a new formula", x.worth(i), LONG_STATE);
         for (int i = 0; i < 4; i++) due("cell of a new sheet", x.cell(i, 0, 1), -11);
         for (int i = 10; i < 18; i++) due("value of a new name", x.count(i), 0);
         due("tape of a new object", x.count(1), 0);
         due("image of a new object", x.back(), -3);
     }
 
-    private static void feed() {
+    static void promise02_feed() {
         FormulaVisitors x = new FormulaVisitors();
         due("feed 0", x.feed(0, 1, 1, 1, 1, 1), -2);
         due("feed 6", x.feed(6, 1, 1, 1, 1, 1), -2);
@@ -98,7 +32,7 @@ public final class PromisesTest {
         due("text of 120 bytes", x.text(3), 47 + 46);
     }
 
-    private static void text() {
+    static void promise03_text() {
         FormulaVisitors x = new FormulaVisitors();
         feedAll(x, "a+b");
         due("text 12", x.text(12), -2);
@@ -178,7 +112,7 @@ public final class PromisesTest {
         due("from the left", x.node(0, 1, 0), 4);
     }
 
-    private static void let() {
+    static void promise04_let() {
         FormulaVisitors x = new FormulaVisitors();
         due("let 8", x.let(8, 5), -2);
         due("let -1", x.let(-1, 5), -2);
@@ -188,7 +122,7 @@ public final class PromisesTest {
         due("value", x.count(17), MAX);
     }
 
-    private static void turn() {
+    static void promise05_turn() {
         FormulaVisitors x = of("a*b");
         for (int what : new int[] {-1, 2, 9, 18, 19, 28, 29, 31, MAX, MIN}) due("turn", x.turn(0, what, 0), -2);
         due("turn 12", x.turn(12, 0, 0), -2);
@@ -205,13 +139,10 @@ public final class PromisesTest {
         due("to empty", x.turn(5, 30, 0), 3);
         due("emptied", x.turn(5, 0, -7), 0);
         due("emptied again", x.turn(5, 0, 77), 0);
-        due("empty", x.worth(5), STATE);
-        folded();
-        derived();
-        replaced();
+        due("empty", x.worth(5), LONG_STATE);
     }
 
-    private static void folded() {
+    static void promise05_folded() {
         dueTurned("--a", 1, "a");
         dueTurned("---a", 1, "-a");
         dueTurned("-5", 1, "-5");
@@ -246,7 +177,7 @@ public final class PromisesTest {
         dueTurned("-(b+0)*(c*1)", 1, "-b*c");
     }
 
-    private static void derived() {
+    static void promise05_derived() {
         dueTurned("7", 10, "0");
         dueTurned("a", 10, "1");
         dueTurned("b", 10, "0");
@@ -265,7 +196,7 @@ public final class PromisesTest {
         due("as it was", x.measure(0, 0), 13);
     }
 
-    private static void replaced() {
+    static void promise05_replaced() {
         FormulaVisitors x = of("a*a+b", "a+c");
         due("replaced", x.turn(0, 20, 1), 9);
         dueText("replaced", printed(x, 0), "(a+c)*(a+c)+b");
@@ -295,7 +226,7 @@ public final class PromisesTest {
         due("folded from there", x.turn(0, 1, 0), 2);
     }
 
-    private static void node() {
+    static void promise06_node() {
         FormulaVisitors x = of("7-b^3*[c]?1:h", "9999^9*9999");
         int[] kinds = {6, 3, 0, 2, 4, 5, 1, 7, 1, 0, 1};
         int[] sizes = {11, 8, 1, 6, 5, 2, 1, 2, 1, 1, 1};
@@ -322,7 +253,7 @@ public final class PromisesTest {
         due("STATE ahead of -12", x.node(3, -1, 0), -3);
     }
 
-    private static void taken() {
+    static void promise07_taken() {
         FormulaVisitors x = of("[a+1]*-b^2?3:c");
         int[] kinds = {6, 4, 7, 3, 1, 0, 5, 2, 1, 0, 1};
         int[] sizes = {11, 8, 4, 3, 1, 1, 3, 2, 1, 1, 1};
@@ -341,7 +272,7 @@ public final class PromisesTest {
         due("-12", x.taken(0, -1, 6), -12);
     }
 
-    private static void worth() {
+    static void promise08_worth() {
         FormulaVisitors x = of("9999^9*9999^9", "a^0+b^1", "a?b:c", "-a*[b-c]", "(a-a)^0");
         due("wraps", x.worth(0), Oracle.power(9999, 18));
         x.let(0, MIN);
@@ -353,12 +284,12 @@ public final class PromisesTest {
         due("0 to 0", x.worth(4), 1);
         x.let(0, 0);
         due("other", x.worth(2), -3);
-        due("BAD", x.worth(12), BAD);
-        due("BAD", x.worth(MIN), BAD);
-        due("STATE", x.worth(11), STATE);
+        due("BAD", x.worth(12), LONG_BAD);
+        due("BAD", x.worth(MIN), LONG_BAD);
+        due("STATE", x.worth(11), LONG_STATE);
     }
 
-    private static void met() {
+    static void promise09_met() {
         FormulaVisitors x = of("a?b^3+-2:[c*4]", "(a+1)^9", "a^0");
         int[] other = {1, 2, 0, 0, 2, 0, 1, 1, 7};
         for (int kind = 0; kind < 9; kind++) due("met " + kind, x.met(0, kind), other[kind]);
@@ -374,23 +305,23 @@ public final class PromisesTest {
         due("STATE", x.met(7, 8), -3);
     }
 
-    private static void purse() {
+    static void promise10_purse() {
         FormulaVisitors x = of("a?1+2+3:[4]");
         due("other", x.purse(0, 5), 16);
-        due("dear", x.purse(0, 4), DEAR);
+        due("dear", x.purse(0, 4), LONG_DEAR);
         x.let(0, 1);
         due("one", x.purse(0, 7), 6);
-        due("dear", x.purse(0, 6), DEAR);
-        due("nothing in it", x.purse(0, 0), DEAR);
+        due("dear", x.purse(0, 6), LONG_DEAR);
+        due("nothing in it", x.purse(0, 0), LONG_DEAR);
         due("9999", x.purse(0, 9999), 6);
-        due("10000", x.purse(0, 10000), BAD);
-        due("-1", x.purse(0, -1), BAD);
-        due("BAD", x.purse(12, 5), BAD);
-        due("BAD ahead of STATE", x.purse(1, -1), BAD);
-        due("STATE", x.purse(1, 0), STATE);
+        due("10000", x.purse(0, 10000), LONG_BAD);
+        due("-1", x.purse(0, -1), LONG_BAD);
+        due("BAD", x.purse(12, 5), LONG_BAD);
+        due("BAD ahead of STATE", x.purse(1, -1), LONG_BAD);
+        due("STATE", x.purse(1, 0), LONG_STATE);
     }
 
-    private static void print() {
+    static void promise11_print() {
         duePrinted("(a)", "a");
         duePrinted("0012", "12");
         duePrinted("a+(b+c)", "a+(b+c)");
@@ -418,7 +349,6 @@ public final class PromisesTest {
         duePrinted("(a^2)^3", "a^2^3");
         duePrinted("(a*b)^3*(c^0)", "(a*b)^3*c^0");
         duePrinted("-(a?b:c)", "-(a?b:c)");
-        printedNumbers();
         FormulaVisitors x = of("a+b");
         due("size", x.print(0, -1), 3);
         due("byte 2", x.print(0, 2), 'b');
@@ -429,7 +359,7 @@ public final class PromisesTest {
         due("STATE", x.print(3, -9), -3);
     }
 
-    private static void printedNumbers() {
+    static void promise11_printedNumbers() {
         FormulaVisitors x = of("0-8*(4096^5)", "8*(4096^5)-1");
         x.turn(0, 1, 0);
         due("least long", x.worth(0), Long.MIN_VALUE);
@@ -445,7 +375,7 @@ public final class PromisesTest {
         }
     }
 
-    private static void measure() {
+    static void promise12_measure() {
         FormulaVisitors x = of("a?[b*-c]:d^9", "-(-a)+b", "a^0", "a", "[[a]]");
         // a PICK of a, [b*-c] (of 5 nodes) and d^9 (of 2)
         int[] want = {9, 5, 1 + 1 + (3 + 3 + 1 + 1 + 1) + (9 + 1), 4, 1 + 1 + 10, 1 + 1 + (2 * 4 + 2) + 2};
@@ -469,7 +399,7 @@ public final class PromisesTest {
         due("STATE", x.measure(7, 0), -3);
     }
 
-    private static void code() {
+    static void promise13_code() {
         FormulaVisitors x = of("a?-5:[h]^7", "b*(c+d*e)", "a?(b?1:2):3");
         int[] lines = {10, 560, 0, 20, 970, 17, 80, 40, 57};
         for (int k = 0; k < lines.length; k++) due("line " + k, x.code(0, k), lines[k]);
@@ -494,7 +424,7 @@ public final class PromisesTest {
         due("STATE ahead of -12", x.code(7, 99), -3);
     }
 
-    private static void run() {
+    static void promise14_run() {
         FormulaVisitors x = of("a?b^3+-2:[c*4]", "9999^9*9999^9-(b-c)*[d]", "(a?[b]:-c)*(2+(d?1:2))");
         for (int i = 0; i < 4; i++) {
             for (int v = -2; v < 3; v++) {
@@ -504,11 +434,11 @@ public final class PromisesTest {
                 due("run 2", x.run(2), x.worth(2));
             }
         }
-        due("BAD", x.run(12), BAD);
-        due("STATE", x.run(4), STATE);
+        due("BAD", x.run(12), LONG_BAD);
+        due("STATE", x.run(4), LONG_STATE);
     }
 
-    private static void alike() {
+    static void promise15_alike() {
         FormulaVisitors x = of("a*a+[a*a]", "a*a+[a*a]", "a*a+[a*b]", "[b*(a*a)]", "(a*a)*(a*a)", "[a*a]", "5", "a^2", "a^3");
         due("alike", x.alike(0, 1, 0), 1);
         due("itself", x.alike(0, 0, 0), 1);
@@ -532,7 +462,7 @@ public final class PromisesTest {
         due("what -1", x.alike(0, 0, -1), -2);
     }
 
-    private static void degree() {
+    static void promise16_degree() {
         FormulaVisitors x = of("a^3*b-a*[a^2]", "b?a^2:a^5", "a?b:c", "(a^0?b:c)+a", "(a?b:c)^0", "7", "[[[a^9]^9]^9]^9", "-(a?1:2)");
         due("degree", x.degree(0, 0), 5);
         due("degree in b", x.degree(0, 1), 1);
@@ -554,7 +484,7 @@ public final class PromisesTest {
         due("STATE", x.degree(9, 0), -3);
     }
 
-    private static void sought() {
+    static void promise17_sought() {
         FormulaVisitors x = of("[a]-b", "a+b");
         x.let(1, 4);
         x.let(0, 99);
@@ -578,7 +508,7 @@ public final class PromisesTest {
         due("STATE", x.sought(5, 0, 0, 1, 0, 0), -3);
     }
 
-    private static void drawn() {
+    static void promise18_drawn() {
         FormulaVisitors x = of("a", "b", "c", "d", "e", "f", "g", "h", "7");
         for (int i = 0; i < 8; i++) x.let(i, 1000);
         for (int seed : new int[] {0, 1, 7, -1, MAX, MIN, 123456789}) {
@@ -591,11 +521,11 @@ public final class PromisesTest {
         due("drawn(a, 7)", x.drawn(0, 7), -10);
         due("number", x.drawn(8, 5), 7);
         due("values stay", x.worth(3), 1000);
-        due("BAD", x.drawn(12, 0), BAD);
-        due("STATE", x.drawn(9, 0), STATE);
+        due("BAD", x.drawn(12, 0), LONG_BAD);
+        due("STATE", x.drawn(9, 0), LONG_STATE);
     }
 
-    private static void chance() {
+    static void promise19_chance() {
         FormulaVisitors x = of("a*a-b", "5");
         for (int m = 1; m <= 20; m++) {
             for (int w : new int[] {-3, 0, 9, 40, MAX, MIN}) {
@@ -620,7 +550,7 @@ public final class PromisesTest {
         due("STATE", x.chance(2, 0, 20, 0, 0), -3);
     }
 
-    private static void tells() {
+    static void promise20_tells() {
         FormulaVisitors x = of("a*3+2", "3*b+2", "2+a+a+a", "a^0*2+b*0+c?7:7", "99+0*5+a", "(1-1)*a");
         x.film(0, 0, 0, 20);
         due("so", x.tells(0, 0, 0, 0), -1);
@@ -658,10 +588,9 @@ public final class PromisesTest {
         x.cell(2, 1, 1);
         x.cell(2, 2, 2);
         due("lowest 32 bits", x.tells(2, 6, 0, 0), -1);
-        tellsRefusals();
     }
 
-    private static void tellsRefusals() {
+    static void promise20_tellsRefusals() {
         FormulaVisitors x = of("a+1+2", "1" + "+1".repeat(41));
         x.sheet(0, 1, 20);
         due("sheet 4", x.tells(4, 0, 0, 0), -2);
@@ -684,7 +613,7 @@ public final class PromisesTest {
         due("20", x.tells(0, 0, 0, 0), 0);
     }
 
-    private static void film() {
+    static void promise21_film() {
         FormulaVisitors x = of("a*b", "a^9");
         x.let(1, 100000);
         x.let(0, 5);
@@ -709,7 +638,7 @@ public final class PromisesTest {
         due("sheet stays", x.cell(0, 19, 0), 1);
     }
 
-    private static void image() {
+    static void promise22And23_imageAndBack() {
         FormulaVisitors x = of("a*b", "b");
         due("no image", x.back(), -3);
         x.let(1, 7);
@@ -723,7 +652,7 @@ public final class PromisesTest {
         due("back", x.back(), 2);
         dueText("formula", printed(x, 0), "a*b");
         due("value", x.worth(1), 7);
-        due("empty again", x.worth(5), STATE);
+        due("empty again", x.worth(5), LONG_STATE);
         due("tape isn't kept", x.count(1), 2);
         due("sheet isn't kept", x.cell(0, 2, 1), 1);
         x.turn(0, 10, 0);
@@ -737,7 +666,7 @@ public final class PromisesTest {
         due("of none", new FormulaVisitors().image(), 0);
     }
 
-    private static void count() {
+    static void promise24_count() {
         FormulaVisitors x = of("a*b", "b", "[c]");
         x.let(3, -5);
         due("formulas", x.count(0), 3);
@@ -747,7 +676,7 @@ public final class PromisesTest {
         for (int what : new int[] {-1, 3, 9, 18, MAX, MIN}) due("count " + what, x.count(what), -2);
     }
 
-    private static void sheet() {
+    static void promise25_sheet() {
         FormulaVisitors x = new FormulaVisitors();
         due("sheet", x.sheet(0, 0, 40), 1);
         due("last item", x.cell(0, 39, 1), 1);
@@ -773,7 +702,7 @@ public final class PromisesTest {
         due("all 0", y.tells(0, 0, 0, 0), -1);
     }
 
-    private static void cell() {
+    static void promise26_cell() {
         FormulaVisitors x = of("a*(7000*10)", "a*4464");
         x.sheet(0, 0, 2);
         x.sheet(1, 1, 2);
@@ -789,7 +718,7 @@ public final class PromisesTest {
         due("item MAX", x.cell(0, MAX, 0), -12);
     }
 
-    private static void copy() {
+    static void promise27_copy() {
         FormulaVisitors x = of("a", "a?a-1:0");
         x.film(0, 0, 0, 6);
         due("on", x.copy(0, 0, 0, 1, 5), 5);
@@ -820,33 +749,6 @@ public final class PromisesTest {
     }
 
     public static void main(String[] args) {
-        newObject();
-        feed();
-        text();
-        let();
-        turn();
-        node();
-        taken();
-        worth();
-        met();
-        purse();
-        print();
-        measure();
-        code();
-        run();
-        alike();
-        degree();
-        sought();
-        drawn();
-        chance();
-        tells();
-        film();
-        image();
-        count();
-        sheet();
-        cell();
-        copy();
-        System.out.println(wrong == 0 ? "all promises hold" : wrong + " answers are not as due");
-        if (wrong != 0) System.exit(1);
+        runAll(PromisesTest.class);
     }
 }
