@@ -232,6 +232,12 @@ public final class EdgesOfFormulasTest extends Checks {
         dueNodes("-a" + "-a".repeat(59), 179);
     }
 
+    static void promise03_allFormulasMayBeOfLongTexts() {
+        FormulaVisitors x = new FormulaVisitors();
+        for (int f = 0; f < 12; f++) due("text " + f, write(x, f, "a" + "-a".repeat(59)), 178);
+        due("nodes of all", x.count(2), 12 * 178);
+    }
+
     static void promise03_eachByteAlone() {
         for (int v = 0; v < 256; v++) {
             FormulaVisitors x = new FormulaVisitors();
@@ -627,6 +633,16 @@ public final class EdgesOfFormulasTest extends Checks {
         due("60 times 119", x.turn(0, 20, 0), FULL);
         due("as it was", x.measure(0, 0), 119);
         due("another name", x.turn(0, 27, 0), 119);
+    }
+
+    static void promise05_turnsOf200NodesMayBeMany() {
+        FormulaVisitors x = withNodes(200);
+        write(x, 3, "b");
+        for (int i = 0; i < 40; i++) due("replaced", x.turn(0, 20, 3), 200);
+        for (int i = 0; i < 40; i++) due("derived", x.turn(0, 10 + i % 8, 0), 200);
+        FormulaVisitors y = of("a", "[[[[[a]]]]]");
+        for (int i = 0; i < 39; i++) y.turn(0, 20, 1);
+        for (int i = 0; i < 40; i++) due("folded", y.turn(0, 1, 0), 196);
     }
 
     static void promise05_replacedByItselfIsReplacedOnce() {

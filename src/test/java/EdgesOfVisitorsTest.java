@@ -217,6 +217,18 @@ public final class EdgesOfVisitorsTest extends Checks {
         due("399", y.purse(0, 399), 0);
     }
 
+    static void promise10_whatIsMetByTheValuesIsPaid() {
+        FormulaVisitors x = of("a?1+2+3:[4]+c");
+        x.let(2, 30);
+        x.drawn(0, 7);
+        due("other, 6 are not enough", x.purse(0, 6), LONG_DEAR);
+        due("other", x.purse(0, 7), 46);
+        x.let(0, MIN);
+        x.sought(0, 0, 0, 1, 0, 0);
+        due("one, 6 are not enough", x.purse(0, 6), LONG_DEAR);
+        due("one", x.purse(0, 7), 6);
+    }
+
     // ---- promise 11: print
 
     static void promise11_noSuchFormulaIsBad() {
@@ -480,6 +492,22 @@ public final class EdgesOfVisitorsTest extends Checks {
         due("steps of one", x.code(3, -2), 2 + 191 + 1);
     }
 
+    static void promise13_jumpsToLinesOfThreeDigitsThatAreNotBehindTheLast() {
+        FormulaVisitors x = inSquares(95);
+        write(x, 3, "(a?g:c)*2+3");
+        due("nodes", x.turn(3, 26, 0), 2 + 96 + 1 + 4);
+        due("jump, behind other's", x.code(3, 2 + 191), 100 * (2 + 191 + 1 + 1) + 70);
+        due("lines", x.code(3, -1), 2 + 191 + 1 + 1 + 4);
+        x.let(0, 1);
+        x.let(7, -1);
+        due("steps of one", x.code(3, -2), 2 + 191 + 1 + 4);
+        due("run of one", x.run(3), 1 * 2 + 3);
+        x.let(0, 0);
+        x.let(2, 50);
+        due("steps of other", x.code(3, -2), 2 + 1 + 4);
+        due("run of other", x.run(3), 50 * 2 + 3);
+    }
+
     static void promise13_aJumpMayLeadBehindTheLastLine() {
         FormulaVisitors x = of("a?b:c", "(a?b:c)?d:e", "a?(b?1:2):3");
         int[] pick = {10, 460, 11, 570, 12};
@@ -612,6 +640,20 @@ public final class EdgesOfVisitorsTest extends Checks {
         }
     }
 
+    static void promise15_whatWasMadeIsAlikeToWhatIsReadSo() {
+        String[] texts = {"b?a:-a*a", "(c?[a]:a^2)+0*b", "[a?b:c]", "a+a^3-2*a", "--(b?a:2)*1", "-(a*b?3:a)"};
+        for (String text : texts) {
+            for (int what : new int[] {1, 10, 21}) {
+                FormulaVisitors x = of(text, "a?b:[c]");
+                x.turn(0, what, 1);
+                String made = printed(x, 0);
+                due("nodes of " + made, write(x, 2, made), x.measure(0, 0));
+                due("turn " + what + " of " + text + ", as read", x.alike(0, 2, 0), 1);
+                due("shared by both", x.alike(2, 0, 1), x.measure(0, 0));
+            }
+        }
+    }
+
     static void promise15_nothingSharedIs0() {
         FormulaVisitors x = of("a+b", "c*d", "a-c", "b+a");
         due("nothing", x.alike(0, 1, 1), 0);
@@ -627,6 +669,11 @@ public final class EdgesOfVisitorsTest extends Checks {
         due("the whole first", x.alike(0, 4, 1), 5);
         due("the whole second", x.alike(4, 0, 1), 5);
         due("none", x.alike(3, 0, 1), 0);
+        FormulaVisitors y = of("1+2+3+-a^2", "-a^2", "7*-a^2");
+        due("the longer one's last part is the shorter one", y.alike(0, 1, 1), 3);
+        due("the shorter one is the longer one's last part", y.alike(1, 0, 1), 3);
+        due("the last part of both", y.alike(0, 2, 1), 3);
+        due("the last part of both", y.alike(2, 0, 1), 3);
     }
 
     static void promise15_allUnlikeAndAllButOneAlike() {

@@ -526,8 +526,8 @@ public final class PromisesTest extends Checks {
     }
 
     static void promise19_chance() {
-        FormulaVisitors x = of("a*a-b", "5");
         for (int m = 1; m <= 20; m++) {
+            FormulaVisitors x = of("a*a-b");
             for (int w : new int[] {-3, 0, 9, 40, MAX, MIN}) {
                 int within = 0;
                 for (int i = 0; i < m; i++) if (x.drawn(0, MAX - 5 + i) <= w) within++;
@@ -537,6 +537,7 @@ public final class PromisesTest extends Checks {
                 due("lowest terms", java.math.BigInteger.valueOf(above).gcd(java.math.BigInteger.valueOf(below)).intValue(), 1);
             }
         }
+        FormulaVisitors x = of("a*a-b", "5");
         due("all", x.chance(1, 3, 20, 5, 0), 1);
         due("all", x.chance(1, 3, 20, 5, 1), 1);
         due("none", x.chance(1, 3, 20, 4, 0), 0);
