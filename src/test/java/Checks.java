@@ -13,6 +13,8 @@ abstract class Checks {
     /** 2 to the 63rd, as a text: the least long, as longs wrap. */
     static final String LEAST = "8*4096^5", GREATEST = "(8*4096^5-1)";
 
+    static final int[] NO_FORMULA = {-1, 12, MAX, MIN}, NO_NAME = {-1, 8, MAX, MIN}, NO_SHEET = {-1, 4, MAX, MIN};
+
     private static int wrong;
 
     interface Call {

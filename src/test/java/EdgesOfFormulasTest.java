@@ -1,7 +1,5 @@
 /** Promises 1 to 7: each sentence of the document that names a boundary, by a test of its own. */
 public final class EdgesOfFormulasTest extends Checks {
-    private static final int[] NO_FORMULA = {-1, 12, MAX, MIN}, NO_NAME = {-1, 8, MAX, MIN};
-
     // ---- promise 1: a new object
 
     static void promise01_allTwelveFormulasAreEmpty() {

@@ -1,7 +1,5 @@
 /** Promises 20 to 27: each sentence of the document that names a boundary, by a test of its own. */
 public final class EdgesOfSheetsTest extends Checks {
-    private static final int[] NO_FORMULA = {-1, 12, MAX, MIN}, NO_NAME = {-1, 8, MAX, MIN}, NO_SHEET = {-1, 4, MAX, MIN};
-
     /** Item i of a sheet (0 .. 2) is v; it is told on sheet 3, by formula 11, which is the name g. */
     private static void dueItem(FormulaVisitors x, int sheet, int i, int v) {
         if (x.node(11, 0, 2) != 6) write(x, 11, "g");

@@ -1,7 +1,5 @@
 /** Promises 8 to 19: each sentence of the document that names a boundary, by a test of its own. */
 public final class EdgesOfVisitorsTest extends Checks {
-    private static final int[] NO_FORMULA = {-1, 12, MAX, MIN}, NO_NAME = {-1, 8, MAX, MIN};
-
     /** Formula 0 is h in so many SQUARES. */
     private static FormulaVisitors inSquares(int n) {
         FormulaVisitors x = of("h", "[[[[[h]]]]]", "[h]");

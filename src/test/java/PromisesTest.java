@@ -1,4 +1,4 @@
-/** What each promise says, by hand: ordinary inputs, the edges that the document names, wrong inputs. */
+/** What each promise says, by hand: ordinary inputs, some edges and wrong inputs; all edges are in Edges..Test. */
 public final class PromisesTest extends Checks {
     static void promise01_newObject() {
         FormulaVisitors x = new FormulaVisitors();

@@ -37,6 +37,7 @@ public final class RulesTest {
         rule(found(source, "(?m)^    private static final class ") + 1 == found(source, "\\bclass\\b"), "2: static classes inside");
         privateNames(source);
         methods(source);
+        edges();
         System.out.println(wrong == 0 ? "all rules are kept" : wrong + " rules are not kept");
         if (wrong != 0) System.exit(1);
     }
@@ -76,5 +77,16 @@ public final class RulesTest {
             rule(!(lines[i].contains("new ") && from >= 0 && !inConstructor), "12: nothing is made in " + head);
         }
         rule(from < 0, "all methods end");
+    }
+
+    /** Each promise has edges that are tested. */
+    private static void edges() throws Exception {
+        StringBuilder tests = new StringBuilder();
+        for (String of : new String[] {"Formulas", "Visitors", "Sheets"}) {
+            tests.append(Files.readString(Path.of("src/test/java/EdgesOf" + of + "Test.java")));
+        }
+        for (int promise = 1; promise <= 27; promise++) {
+            rule(found(tests.toString(), String.format("void promise%02d_", promise)) > 0, "edges of promise " + promise);
+        }
     }
 }
