@@ -118,16 +118,11 @@ public final class FormulaVisitors {
     }
 
     public int node(int formula, int k, int what) {
-        if (!isFormula(formula) || what < 0 || what > 4) {
-            return BAD;
+        int refusal = refusalOfNode(formula, k, what >= 0 && what <= 4);
+        if (refusal != 0) {
+            return refusal;
         }
         Formula it = formulas[formula];
-        if (it.isEmpty()) {
-            return STATE;
-        }
-        if (!it.has(k)) {
-            return OUTSIDE;
-        }
         switch (what) {
             case 0:
                 return it.kind(k);
@@ -143,16 +138,11 @@ public final class FormulaVisitors {
     }
 
     public int taken(int formula, int k, int kind) {
-        if (!isFormula(formula) || !isKind(kind)) {
-            return BAD;
+        int refusal = refusalOfNode(formula, k, isKind(kind));
+        if (refusal != 0) {
+            return refusal;
         }
         Formula it = formulas[formula];
-        if (it.isEmpty()) {
-            return STATE;
-        }
-        if (!it.has(k)) {
-            return OUTSIDE;
-        }
         if (it.kind(k) == kind) {
             return it.nodes(k);
         }
@@ -470,6 +460,15 @@ public final class FormulaVisitors {
             return BAD;
         }
         return formulas[formula].isEmpty() ? STATE : 0;
+    }
+
+    /** As refusalOf; else -12, where the formula has no node k. */
+    private int refusalOfNode(int formula, int k, boolean asTold) {
+        int refusal = refusalOf(formula, asTold);
+        if (refusal != 0) {
+            return refusal;
+        }
+        return formulas[formula].has(k) ? 0 : OUTSIDE;
     }
 
     private int turnedRoot(Formula it, int what, int by) {

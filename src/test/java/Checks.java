@@ -196,10 +196,10 @@ abstract class Checks {
 
     // ---- the tests of a class
 
-    /** Runs each method of a class that is named after a promise. */
+    /** Runs each method of a class that is named after a promise, the face, the room or the readme. */
     static void runAll(Class<?> tests) {
         List<Method> all = new ArrayList<>();
-        for (Method m : tests.getDeclaredMethods()) if (m.getName().startsWith("promise")) all.add(m);
+        for (Method m : tests.getDeclaredMethods()) if (m.getName().matches("(promise|face|room|readme).*_.*")) all.add(m);
         all.sort(Comparator.comparing(Method::getName));
         int failed = 0;
         for (Method m : all) if (!holds(m)) failed++;
